@@ -477,6 +477,7 @@ public final class PromiseTest {
             due.is("18: often(1, " + n + ")", x.often(1, n), times[n]);
         }
         due.is("18: 60", x.often(1, 60), 40);
+        due.is("18: fewer behind more", x.often(1, 3), 2);
         due.is("18: 60", x.often(2, 60), 20);
         due.is("18: another", x.often(3, 60), 0);
         due.is("18: 61", x.often(1, 61), BAD);
@@ -874,16 +875,24 @@ public final class PromiseTest {
         x.see(1, 2);
         x.keep(0);
         x.forget(0);
-        x.see(3, 9);
+        x.see(2, 9);
         x.keep(1);
-        x.see(4, 9);
+        x.see(3, 9);
         x.back(0);
         due.is("34: what was SEEN", x.count(0), 2);
         due.is("34: what was SEEN", x.kinds(0), 5);
         due.is("34: what was SEEN", x.sounds(0, 1), 4);
         x.back(1);
         due.is("34: in the other", x.count(0), 1);
-        due.is("34: in the other", x.sounds(0, 0), 512);
+        due.is("34: in the other", x.sounds(0, 2), 512);
+        for (int i = 2; i <= 6; i++) {
+            x.see(5, 9);
+        }
+        x.keep(0);
+        x.forget(0);
+        x.back(0);
+        due.is("34: six SEEN", x.count(0), 6);
+        due.is("34: six SEEN", x.sounds(0, 2), 512);
     }
 
     private static void p35Back() {
