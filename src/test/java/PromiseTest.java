@@ -1,4 +1,8 @@
-/** The document's promises one by one, with answers worked out by hand from its words. */
+/**
+ * The document's promises one by one, with answers mostly worked out by hand from its words.
+ * Not by hand: drift's runs of many days come from a small script written apart from the class, and the
+ * texts for DAY 60 and 61 were found by a search with the class itself (says() is held beside them).
+ */
 public final class PromiseTest {
     private static final int BAD = -1, STATE = -2, FULL = -3, NONE = -4;
     private static final int LEAST = Integer.MIN_VALUE, MOST = Integer.MAX_VALUE;
