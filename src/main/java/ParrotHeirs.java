@@ -942,15 +942,15 @@ public final class ParrotHeirs {
             return canBegin ? (size - f) / 2 : 0;
         }
 
-        /** As the machine goes: a cast lets nothing pass, and nothing is found at its first CELL. */
+        /** Each pair is taken as of a lane as it is read: where none was left to read, nothing is refused. */
         int faultOfReading(int itsLane, int whole, int n) {
-            if (lane != NOTHING && lane != itsLane) {
-                return CAST_FAULT;
-            }
             if (whole >= n) {
                 return 0;
             }
-            return lane == NOTHING ? NULL_FAULT : INDEX_FAULT;
+            if (lane == NOTHING) {
+                return NULL_FAULT;
+            }
+            return lane == itsLane ? INDEX_FAULT : CAST_FAULT;
         }
     }
 

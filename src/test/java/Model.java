@@ -563,19 +563,22 @@ public final class Model {
         return 1;
     }
 
+    private static int cellAs(int lane, Object sheet, int at) {
+        if (lane == 0) return ((byte[]) sheet)[at];
+        if (lane == 1) return ((short[]) sheet)[at];
+        return ((int[]) sheet)[at];
+    }
+
     public int read(int k, int lane, int f, int n) {
         if (!in(k, 0, 3) || !in(lane, 0, 2) || !in(n, 0, 20)) return BAD;
         World was = w.copy();
         int came = 0, found = 0;
         // here the machine itself finds the FAULTS, which the class may not leave to it
         try {
-            byte[] bytes = lane == 0 ? (byte[]) sheets[k] : null;
-            short[] shorts = lane == 1 ? (short[]) sheets[k] : null;
-            int[] ints = lane == 2 ? (int[]) sheets[k] : null;
             while (came < n) {
                 int at = f + 2 * came;
-                int p = lane == 0 ? bytes[at] : lane == 1 ? shorts[at] : ints[at];
-                int s = lane == 0 ? bytes[at + 1] : lane == 1 ? shorts[at + 1] : ints[at + 1];
+                int p = cellAs(lane, sheets[k], at);
+                int s = cellAs(lane, sheets[k], at + 1);
                 if (teach(p, s) == BAD) {
                     w = was;
                     return -20 - came;

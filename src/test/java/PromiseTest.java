@@ -1059,12 +1059,29 @@ public final class PromiseTest {
         due.is("39: NULL", x.torn(), 1);
         x.read(1, 0, 0, 0);
         due.is("39: none are read of nothing", x.torn(), 0);
-        x.read(0, 2, 0, 0);
-        due.is("39: it is taken as of a lane all the same", x.torn(), 3);
+        x.read(0, 2, 0, 1);
+        due.is("39: CAST ahead of none", x.torn(), 3);
         x.read(0, 0, 0, 1);
         due.is("39: none", x.torn(), 0);
         x.sheet(0, 0, -1);
         due.is("39: of read alone", x.torn(), 0);
+        noneReadIsNotTorn();
+    }
+
+    /** Whatever the SHEET is, wherever it begins, and whatever was torn ahead of it. */
+    private static void noneReadIsNotTorn() {
+        ParrotHeirs x = told("young 0;");
+        x.sheet(1, 0, 0);
+        x.sheet(2, 1, 2);
+        x.sheet(3, 2, 40);
+        for (int k = 0; k < 4; k++) {
+            for (int lane = 0; lane < 3; lane++) {
+                x.read(0, 0, 0, 1);
+                due.is("39: NULL ahead of it", x.torn(), 1);
+                due.is("39: no times", x.read(k, lane, lane == 0 ? LEAST : lane == 1 ? 0 : MOST, 0), 0);
+                due.is("39: SHEET " + k + " as of lane " + lane, x.torn(), 0);
+            }
+        }
     }
 
     private static void p40Count() {
