@@ -25,6 +25,8 @@ final class Boundary {
     private static final Set<String> QUESTIONS = Set.of("fault", "rule", "parrot", "knows", "says", "when", "often",
             "phrase", "ahead", "lesson", "away", "swap", "far", "kind", "luck", "mean", "kinds", "sounds", "ask",
             "drift", "torn", "count");
+    /** These may tell of THE TAPE, too. */
+    private static final Set<String> OF_THE_TAPE = Set.of("fault", "count");
 
     private final Due due;
     private final String document = readDocument();
@@ -58,13 +60,29 @@ final class Boundary {
         due.isTrue(name + " stands in the document", document.isEmpty() || section(promise).contains(words));
     }
 
+    void hold(String what, long got, long want) {
+        due.is(name + ": " + what, got, want);
+    }
+
     /** A call behind a run. A question, and what is refused, must leave all as it was. */
     void is(String run, String call, long want) {
         due.is(name + ": " + brief(behind(run, call)), new Scene(run).call(call), want);
+        String asked = call.substring(0, call.indexOf('('));
         boolean isRefused = want < 0 && !call.equals("text()");
-        if (isRefused || QUESTIONS.contains(call.substring(0, call.indexOf('(')))) {
+        if (isRefused || QUESTIONS.contains(asked)) {
             isSame(behind(run, call), run);
         }
+        if (QUESTIONS.contains(asked)) {
+            is(behind(run, call), call, want, "once more");
+        }
+        if (QUESTIONS.contains(asked) && !OF_THE_TAPE.contains(asked)) {
+            // a text with a FAULT changes nothing else, though all was read in it that stands ahead of the FAULT
+            is(behind(run, "end(0) | text old 8;sly 8;ear 4;@"), call, want, "behind a text with a FAULT");
+        }
+    }
+
+    private void is(String run, String call, long want, String why) {
+        due.is(name + ", " + why + ": " + brief(behind(run, call)), new Scene(run).call(call), want);
     }
 
     /** The call with first, first and 1, and so on in place of the sign #. */
@@ -90,6 +108,13 @@ final class Boundary {
     void isSame(String run, String other) {
         due.isTrue(name + ": all behind " + brief(run) + " is as behind " + brief(other),
                 Scene.picture(run).equals(Scene.picture(other)));
+    }
+
+    /** A text with a FAULT behind a run whose TAPE is empty changes nothing but what fault() tells. */
+    void staysBehindFaulty(String run, String text) {
+        String behind = behind(run, "text " + text);
+        due.isTrue(name + ": what was told stays behind " + brief(behind),
+                Scene.pictureButFault(behind).equals(Scene.pictureButFault(run)));
     }
 
     private static String brief(String run) {

@@ -107,6 +107,14 @@ public final class BoundaryDaysTest {
                 at.is(behind, "knows(" + speaker + ")", knowers);
             }
         }
+        at.sentence(TERMS, "its PLACE goes to the NEXT.");
+        // the one that speaks alone, and ahead of what the others learn
+        at.calls("text plain 1 2;plain 1 2;plain 1 2; | turn(1, 1) | days(1)", "parrot(#, 2)", 0, 1, 1, 0);
+        at.calls("text plain 1 2;plain 1 2;plain 1 2; | turn(1, 1) | days(2)", "parrot(#, 2)", 0, 1, 0, 0);
+        at.sentence(TERMS, "DAY is 1 more.");
+        at.calls("text old 1; | days(0)", "rule(#)", 1, 0);
+        at.calls("text old 1; | days(1)", "rule(#)", 1, 1);
+        at.calls("text old 1; | days(30)", "rule(#)", 1, 30);
         at.sentence(TERMS, "DAY n is the one behind n more (0: this one).");
         at.is("text plain 1 2 3;", "says(0)", 1);
         at.is("text plain 1 2 3;", "says(1)", 2);
@@ -199,6 +207,8 @@ public final class BoundaryDaysTest {
         at.is("text old 0;old 1;old 2;", "perch(1, 3)", 4);
         at.becomes("text old 0;old 1;old 2;old 3;", "perch(1, 4)", 5, FIVE_OLD);
         at.is(FIVE_OLD, "perch(1, 5)", FULL);
+        at.is(FIVE_OLD, "perch(2, 9)", FULL);
+        at.is(FIVE, "perch(3, 0)", FULL);
         at.is(FIVE_OLD + " | perch(1, 5)", "perch(1, 5)", FULL);
         at.is(BUSY, "perch(3, 9)", 5);
         at.is(BUSY + " | perch(3, 9)", "perch(3, 9)", FULL);
@@ -363,6 +373,10 @@ public final class BoundaryDaysTest {
         at.is("text old 1;old 1;old 1;old 1;sly 1;", "lesson(7, 5, 0)", 4);
         at.is("", "lesson(7, 60, 0)", NONE);
         at.outside("", "lesson(7, #, 0)", 0, 60);
+        at.sentence(21, "The PARROT to which a SOUND is to be taught now (it may LEARN it or not)");
+        at.is("text old 1;plain 1;", "lesson(7, 3, 0)", NONE);
+        at.is("text old 1;plain 1;", "lesson(7, 4, 0)", 1);
+        at.is("text old 1;plain 1 7;", "lesson(7, 4, 0)", NONE);
     }
 
     private static void p22Away() {
@@ -405,6 +419,13 @@ public final class BoundaryDaysTest {
         at.outside(BUSY, "swap(#, 0)", 0, 9);
         at.outside(BUSY, "swap(0, #)", 0, 1);
         at.outside("", "swap(#, 0)", 0, 9);
+        at.sentence(23, "Two PARROTS that are to change perches (all of them)");
+        // KIND: the old one says 1 for ever; MEMORY; PLACE
+        at.is("text old 1 2;plain 1 2;", "swap(2, 0)", 1);
+        at.is("text old 1 2;plain 1 2;", "swap(2, 1)", 2);
+        at.is("text old 3;old 4 5 6 7 8 9; | turn(1, 5)", "swap(9, 1)", 0);
+        at.is("text old 3;old 4 5 6 7 8 9; | turn(1, 5)", "swap(4, 1)", NONE);
+        at.sentence(23, "in which DAY (1)");
         // as it is, 3 is not said in 61 DAYS; the first and the fourth changed, in the last of them
         String in60 = "text sly 1;plain 6;old 6 9 7;sly 2 3;old 5 8 4 9;ear 2;";
         at.is(in60, "when(3)", NONE);

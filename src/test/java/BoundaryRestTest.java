@@ -45,6 +45,14 @@ public final class BoundaryRestTest {
         fraction(HEARER, "luck(9, 4, 7, 8, #)", 156249, 156250);
         at.outside(two, "luck(5, 1, 1, #, 0)", 0, 8);
         at.outside(BUSY, "luck(5, 1, 1, #, 1)", 0, 8);
+        at.sentence(26, "(nothing is said, DAY is 1 more)");
+        // in DAY 0 alone the first of three speaks, in DAY 1 the second, under a cloth or not
+        String three = "text old 7;old 8;young 5;ear 2;";
+        fraction(three, "luck(5, 2, 8, 1, #)", 0, 1);
+        fraction(three, "luck(5, 2, 8, 2, #)", 1, 2);
+        fraction(three, "luck(5, 2, 8, 4, #)", 1, 2);
+        fraction(three, "luck(5, 2, 8, 5, #)", 3, 4);
+        fraction(three, "luck(10, 2, 8, 8, #)", 0, 1);
         at.sentence(26, "that a PARROT KNOWS a SOUND behind them: 0, 1. BAD.");
         at.calls(FIVE, "luck(5, #, 4, 0, 0)", 0, 0, 0, 0, 0, 1);
         at.outside(FIVE, "luck(5, #, 4, 0, 0)", 0, 4);
@@ -100,6 +108,9 @@ public final class BoundaryRestTest {
         at.is("text plain 1 2 3; | see(19, 2)", "kinds(0)", 5);
         at.is("text plain 1 2 3; | see(20, 3)", "kinds(0)", 5);
         at.is("text plain 1 2 3; | see(20, 2)", "kinds(0)", 10);
+        // by DAYS from now on, whichever DAY it is when it is asked
+        at.is("text plain 1 2 3; | see(1, 2) | days(1)", "kinds(0)", 0);
+        at.is("text plain 1 2 3; | see(1, 2) | days(3)", "kinds(0)", 5);
         for (int n = 0; n < 6; n++) {
             String run = n == 0 ? "text old 4;" : "text old 4; | see(20, 4) x" + n;
             at.is(run, "see(0, 4)", n + 1);
@@ -178,6 +189,10 @@ public final class BoundaryRestTest {
         // a DAY later it says it, which is one too late
         at.is("text old 1;sly 1 2 3 4 5 6;old 1;old 1;", "ask(1, 1, 0)", NONE);
         at.is("text old 1;sly 1 2 3 4 5 6;old 1;old 1;", "ask(1, 1, 1)", NONE);
+        // if it is 0 already, 0 does not come behind all for DAY 5: of ten nine are left at the worst
+        String zero = "text old 0;plain 1 2 3 7 4;old 0;old 0; | turn(1, 4)";
+        at.is(zero, "ask(1, 3, 0)", 5);
+        at.is(zero, "ask(1, 3, 1)", 9);
         at.sentence(32, "BAD (also, if it has not so many); NONE: none.");
         at.outside("text old 1 2 3;", "ask(0, #, 0)", 0, 2);
         at.outside("text old 1 2 3;", "ask(0, 2, #)", 0, 1);
@@ -192,6 +207,8 @@ public final class BoundaryRestTest {
         // its second is never said, so that nothing tells them apart
         at.is("text old 1 2;", "ask(0, 1, 0)", NONE);
         at.is("text old 1 2;", "ask(0, 1, 1)", NONE);
+        at.is("text old 0 1;", "ask(0, 1, 0)", NONE);
+        at.is("text old 9 1;", "ask(0, 1, 0)", NONE);
     }
 
     /** What is got of a seed in one step, in numbers that do not wrap. */
@@ -211,7 +228,8 @@ public final class BoundaryRestTest {
         at.outside(BUSY, "drift(1, #, 1)", 1, 60);
         at.outside(BUSY, "drift(1, 60, #)", 0, 1);
         at.sentence(33, "the seed becomes seed times 1103515245 and 12345; bits 16 to 30 of it are got: PARROT got modulo PARROTS LEARNS SOUND got by 8 (down) modulo 10 ahead of it");
-        for (int seed : new int[] {LEAST, LEAST + 1, -2, -1, 0, 1, 2, 7, 13, 15, MOST - 1, MOST}) {
+        for (int seed : new int[] {LEAST, LEAST + 1, -2, -1, 0, 1, 2, 7, 13, 15, MOST - 1, MOST,
+            42627, 47902, 65536, 123456789, -987654321}) {
             long got = got(seed);
             for (int parrots = 1; parrots <= 5; parrots++) {
                 for (int turn = 0; turn < parrots; turn++) {
@@ -222,6 +240,9 @@ public final class BoundaryRestTest {
                 }
             }
         }
+        at.sentence(33, "what is said in the last of them (what 0), how many unlike SOUNDS are said in them (1)");
+        at.calls("text old 7;old 8;", "drift(5, #, 0)", 1, 7, 8, 7);
+        at.calls("text old 7;old 8;", "drift(5, #, 1)", 1, 1, 2, 2);
         at.sentence(33, "STATE: there are no PARROTS.");
         at.is("", "drift(1, 1, 0)", STATE);
         at.is("", "drift(1, 60, 1)", STATE);
@@ -246,6 +267,7 @@ public final class BoundaryRestTest {
         at.is("text old 1; | keep(0) | text old 1;", "keep(0)", 0);
         at.becomes("text old 1; | keep(0)", "keep(0)", 1, "text old 1; | keep(0)");
         at.becomes("text old 1; | keep(0) | days(1)", "keep(0)", 1, "text old 1; | days(1) | keep(0)");
+        at.sentence(34, "IMAGE k (0, 1) is PARROTS (all of them), EAR, DAY, what was SEEN");
         // what is changed behind it does not change it
         at.is("text old 1 2;ear 2; | keep(0) | sell(0) | ear(4) | days(9) | see(0, 0)", "back(0)", 0);
         at.becomes("text old 1 2;ear 2; | keep(0) | sell(0) | ear(4) | days(9) | see(0, 0) x6", "back(0)", 0,

@@ -23,11 +23,11 @@ public final class BoundaryTextTest {
         at.is("feed " + text, "text()", -10 - place);
         at.is("text " + text, "fault()", fault);
         at.is("text " + text, "count(2)", 0);
-        at.isSame("text " + text + " | text @", "text @");
+        at.staysBehindFaulty("", text);
         String busy = BUSY + " | end(0)";
         at.is(busy + " | feed " + text, "text()", -10 - place);
         at.is(busy + " | text " + text, "fault()", fault);
-        at.isSame(busy + " | text " + text + " | text @", busy + " | text @");
+        at.staysBehindFaulty(busy, text);
     }
 
     private static void p01NewObject() {
@@ -53,6 +53,35 @@ public final class BoundaryTextTest {
         at.sentence(TERMS, "EAR (1 to 4; 1 at first). DAY (0 at first).");
         at.is("", "rule(2)", 1);
         at.is("", "rule(1)", 0);
+    }
+
+    private static void answers() {
+        at.sentence(TERMS, "Answers: BAD -1 (a number is not as told, there is no such PARROT, IMAGE, SHEET), STATE -2 (as told), FULL -3, NONE -4 (there is none)");
+        at.hold("BAD", ParrotHeirs.BAD, -1);
+        at.hold("STATE", ParrotHeirs.STATE, -2);
+        at.hold("FULL", ParrotHeirs.FULL, -3);
+        at.hold("NONE", ParrotHeirs.NONE, -4);
+        at.sentence(TERMS, "what is refused changes nothing (but THE TAPE, as told)");
+        // one of each call that can be refused; BUSY has 4 PARROTS, 2 SEEN, both IMAGES, 6 bytes on THE TAPE
+        for (String call : new String[] {"feed(128)", "end(7)", "rule(6)", "parrot(4, 0)", "knows(10)", "moult(0, 4)",
+            "turn(1, 3)", "teach(4, 0)", "ear(5)", "perch(4, 0)", "sell(5)", "days(31)", "says(61)", "when(10)",
+            "often(0, 61)", "phrase(0, 10)", "ahead(0, 61, 0)", "lesson(0, 61, 0)", "away(0, 61, 0)", "swap(0, 2)",
+            "far(0, 61)", "kind(4, 0, 0, 0)", "luck(11, 0, 0, 0, 0)", "mean(11, 0, 0, 0)", "see(21, 0)", "forget(3)",
+            "kinds(4)", "sounds(0, 6)", "ask(0, 6, 0)", "drift(0, 0, 0)", "keep(2)", "back(2)", "sheet(4, 0, 0)",
+            "lay(4, 0, 0)", "read(4, 0, 0, 1)", "count(6)"}) {
+            at.is(BUSY, call, BAD);
+        }
+        at.is(BUSY + " | perch(0, 5)", "perch(0, 5)", FULL);
+        at.is(BUSY + " | see(0, 0) x4", "see(0, 0)", FULL);
+        at.is(BUSY + " | days(30) x33", "days(3)", FULL);
+        at.is(BUSY + " | feed " + blanks(154), "feed(32)", FULL);
+        at.is(BUSY + " | sell(0)", "drift(0, 1, 0)", Boundary.STATE);
+        at.is(BUSY + " | text()", "back(0)", Boundary.STATE);
+        at.is(BUSY, "sheet(0, 0, -1)", -14);
+        at.is(BUSY, "lay(3, 0, 5)", -11);
+        at.is(BUSY, "lay(0, 6, 5)", -12);
+        at.is(BUSY + " | lay(0, 5, 10)", "read(0, 0, 0, 3)", -22);
+        faulty("sly 1;sly 2;@", 1, 12);
     }
 
     private static void p02Feed() {
@@ -179,7 +208,9 @@ public final class BoundaryTextTest {
             at.is("text " + name + " 7;", "parrot(0, 1)", 1);
             at.is("text " + name + " 4 5 6 7 8 9;", "parrot(0, 1)", 6);
             at.calls("text " + name + " 4 5 6 7 8 9;", "parrot(0, #)", 10, 4, 5, 6, 7, 8, 9);
-            // a NAME with a letter more, or a letter less at either end, begins no line
+            // a NAME with a letter more, less or another one at either end begins no line
+            faulty("x" + name.substring(1) + " 1;", 2, 0);
+            faulty(name.substring(0, from - 1) + "x 1;", 2, 0);
             faulty(name + "s 1;", 2, 0);
             faulty("s" + name + " 1;", 2, 0);
             faulty(name.substring(1) + " 1;", 2, 0);
@@ -190,7 +221,13 @@ public final class BoundaryTextTest {
         taken("ear 3;", 1);
         faulty("ear 3 3;", 2, 6);
         faulty("ears 3;", 2, 0);
+        faulty("xar 3;", 2, 0);
+        faulty("eax 3;", 2, 0);
         faulty("ea 3;", 2, 0);
+        at.sentence(TERMS, "each of a KIND (0 plain, 1 old, 2 young, 3 sly), with a MEMORY: SOUNDS (0 to 9 each), one behind another, 1 to 6");
+        at.calls("text plain 9;old 0;young 9;sly 0;", "parrot(#, 0)", 0, 0, 1, 2, 3, BAD);
+        at.calls("text plain 9;old 0;young 9;sly 0;", "parrot(#, 10)", 0, 9, 0, 9, 0, BAD);
+        at.calls("text plain 9;old 0;young 9;sly 0;", "parrot(#, 1)", 0, 1, 1, 1, 1, BAD);
         at.sentence(TERMS, "at a PLACE in it (0: the first one; at first)");
         at.is("text sly 4 5 6 7 8 9;", "parrot(0, 2)", 0);
         at.is("text sly 4 5 6 7 8 9;", "rule(4)", 4);
@@ -361,6 +398,7 @@ public final class BoundaryTextTest {
 
     public static void main(String[] args) {
         p01NewObject();
+        answers();
         p02Feed();
         p03End();
         p04Text();

@@ -84,6 +84,10 @@ final class Scene {
         return PICTURES.computeIfAbsent(run, Scene::newPicture);
     }
 
+    static String pictureButFault(String run) {
+        return picture(run).replaceAll(" fault \\d", "");
+    }
+
     private static String newPicture(String run) {
         StringBuilder all = new StringBuilder();
         new Scene(run).look(all.append("now:"));
@@ -109,8 +113,8 @@ final class Scene {
             tell(all, "rule", what);
             tell(all, "count", what);
         }
-        tell(all, "fault");
-        tell(all, "torn");
+        tell(all.append(" fault"), "fault");
+        tell(all.append(" torn"), "torn");
         for (int s = 0; s <= 9; s++) {
             tell(all, "knows", s);
         }
@@ -144,7 +148,8 @@ final class Scene {
             isThere = torn == 0;
             all.append(' ').append(torn);
             for (int p = 0; p < 5 && isThere; p++) {
-                tell(all, "parrot", p, 9 + (int) ask("parrot", p, 1));
+                int size = (int) ask("parrot", p, 1);
+                tell(all.append(' ').append(size), "parrot", p, 9 + size);
             }
         }
         int cells = 0;
