@@ -6,6 +6,8 @@ import java.lang.reflect.Modifier;
 import java.nio.file.Files;
 import java.nio.file.Path;
 import java.util.Arrays;
+import java.util.HashMap;
+import java.util.Map;
 import java.util.Set;
 import java.util.TreeSet;
 import java.util.regex.Matcher;
@@ -101,6 +103,47 @@ public final class RulesTest {
         }
     }
 
+    private static Map<String, Set<String>> callsByMethod(String source) {
+        Map<String, Set<String>> calls = new HashMap<>();
+        Set<String> ofThis = new TreeSet<>();
+        for (String line : source.replaceAll("(?s)/\\*.*?\\*/", "").replaceAll("//[^\n]*", "").split("\n")) {
+            Matcher head = Pattern.compile(" {4}(?: {4})?(?:\\w+(?:\\[\\])? )+(\\w+)\\([^()]*\\) \\{").matcher(line);
+            if (head.matches()) {
+                // two classes may have a method of the same name: then it is held as one that calls what both call
+                ofThis = calls.computeIfAbsent(head.group(1), name -> new TreeSet<>());
+                continue;
+            }
+            Matcher call = Pattern.compile("(\\w+)\\(").matcher(line);
+            while (call.find()) {
+                ofThis.add(call.group(1));
+            }
+        }
+        return calls;
+    }
+
+    /** How many calls stand open at once, the library's own too; 100 if one could call itself. */
+    private static int depth(String method, Map<String, Set<String>> calls, int above) {
+        int deepest = 0;
+        for (String called : calls.getOrDefault(method, Set.of())) {
+            if (above > 30) {
+                return 100;
+            }
+            deepest = Math.max(deepest, depth(called, calls, above + 1));
+        }
+        return 1 + deepest;
+    }
+
+    /** Rules 8 and 11: no recursion stands in the class, and calls go at most eight deep. */
+    private static void depths() throws Exception {
+        Map<String, Set<String>> calls = callsByMethod(Files.readString(SOURCE));
+        for (String method : FACE) {
+            String name = method.split(" ")[1];
+            due.isTrue(name + " is found in the source", calls.containsKey(name));
+            int deep = depth(name, calls, 0);
+            due.isTrue(name + " goes at most eight deep, not " + deep, deep <= 8);
+        }
+    }
+
     private static int dearCalls(ParrotHeirs x, int turns) {
         int sum = 0;
         for (int i = 0; i < turns; i++) {
@@ -132,6 +175,7 @@ public final class RulesTest {
     public static void main(String[] args) throws Exception {
         face();
         words();
+        depths();
         room();
         due.close();
     }
